@@ -78,6 +78,11 @@ public final class HoursTest {
         y.outside(1);
         y.tick(11);
         Due.is("47 flooded by the warmth behind it", y.of(0, 4), 1);
+        SitDown z = new SitDown();
+        z.hold(5, 0);
+        z.hold(1, 0);
+        z.tick(1);
+        Due.is("47 a main that was there before the shop", z.of(1, 3), 13);
     }
 
     private static void meals() {
@@ -317,6 +322,8 @@ public final class HoursTest {
         Due.is("49 sheet", x.check(0, -1), Due.BEYOND);
         Due.is("49 sheet comes before the day", x.check(5, 4), Due.BEYOND);
         Due.is("49 none comes before missing", x.check(1, 1), Due.NONE);
+        Due.is("49 day 39", x.check(39, 1), Due.NONE);
+        Due.is("49 sheet 3", x.check(0, 3), Due.MISSING);
         Due.sheet(x, 1, 2, 107, 1, 24, 2);
         Due.is("49 five", x.check(0, 1), Due.SIZE);
         Due.sheet(x, 1, 2, 107, 1, 24, 2, 1, 0);

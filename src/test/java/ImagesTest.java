@@ -25,6 +25,7 @@ public final class ImagesTest {
         x.squads(2);
         x.list(0, 20, 5);
         Due.text(x, 0, "bar take when hour>0");
+        x.hold(5, 1);
         return x;
     }
 
@@ -34,7 +35,7 @@ public final class ImagesTest {
         for (int what = 0; what <= 13; what++) {
             all.append(what == 12 ? 0 : x.count(what)).append(' ');
         }
-        for (int h = 0; h < 6; h++) {
+        for (int h = 0; h < 7; h++) {
             for (int what = 0; what <= 12; what++) {
                 all.append(x.of(h, what)).append(' ');
             }
@@ -174,7 +175,7 @@ public final class ImagesTest {
     private static void count() {
         SitDown x = full();
         x.hold(1, 0);
-        x.run(5, true);
+        x.run(6, true);
         x.man(0, 99);
         x.man(1, 99);
         x.man(1, 9900);
@@ -188,7 +189,7 @@ public final class ImagesTest {
         x.text(1, 3, 4);
         x.feed(0, 4);
         x.rumour(2, 1);
-        int[] due = {6, 3, 4, 2, 3, 4, 2, 1, 2, 2, 1, 2, 4, 2};
+        int[] due = {7, 3, 4, 2, 3, 4, 2, 1, 2, 2, 1, 2, 4, 2};
         for (int what = 0; what <= 13; what++) {
             Due.is("56 count " + what, x.count(what), due[what]);
         }

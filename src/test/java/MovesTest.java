@@ -95,6 +95,10 @@ public final class MovesTest {
         Due.is("46 a number", x.judge(0, 5, 5), Due.BEYOND);
         Due.sheet(x, 0, 0, -1, 0);
         Due.is("46 a number", x.judge(0, 5, 5), Due.BEYOND);
+        Due.sheet(x, 0, 3);
+        Due.is("46 the first number, too", x.judge(0, 5, 5), Due.BEYOND);
+        Due.sheet(x, 3, 0);
+        Due.is("46 sheet 3", x.judge(3, 5, 5), 0);
         x.move(0, 1, 0, -2);
         x.move(0, 2, -1, 0);
         x.move(1, 1, -1, 0);

@@ -49,6 +49,8 @@ public final class PartsTest {
         Due.sheet(x, 1, 10, 5, 5, 5, 5, 10000);
         Due.is("22 10000", x.stock(1), Due.BEYOND);
         Due.is("22 nothing changed", x.part(0), 9999);
+        Due.sheet(x, 1, -1, 5, 5, 5, 5, 5);
+        Due.is("22 the first number, too", x.stock(1), Due.BEYOND);
         Due.sheet(x, 1, 10, 5, 5, 5, 5, -9998);
         Due.is("22 -9998", x.stock(1), Due.BEYOND);
         Due.sheet(x, 1, -9999, -9999, -9999, -9999, -9999, -9999);

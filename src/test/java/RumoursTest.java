@@ -101,6 +101,12 @@ public final class RumoursTest {
         x.squads(0);
         Due.is("36 no squads", x.believe(), 1);
         guards(x, 0, 0, 0);
+        SitDown y = threeGates();
+        y.rumour(2, 1);
+        y.out(0, true);
+        y.squads(1);
+        Due.is("36 a credit of 1", y.believe(), 1);
+        guards(y, 0, 9, 0);
     }
 
     private static void believeByFractions() {
@@ -175,5 +181,12 @@ public final class RumoursTest {
         Due.is("37 one more", x.feint(1), 8);
         x.squads(0);
         Due.is("37 no squads", x.feint(1), 0);
+        SitDown y = threeGates();
+        y.man(0, 9900);
+        y.rumour(2, 5);
+        y.rumour(1, 4);
+        y.out(1, true);
+        y.squads(1);
+        Due.is("37 rumour 0", y.feint(1), 1);
     }
 }

@@ -96,6 +96,7 @@ public final class SheetsTest {
         Due.is("52 missing", x.copy(2, 0, 0, 0, 1), Due.MISSING);
         Due.is("52 beyond comes before missing", x.copy(2, 0, 4, 0, 1), Due.BEYOND);
         x.sheet(3, 16, 5);
+        Due.is("52 sheet 3", x.copy(3, 0, 3, 1, 2), 2);
         Due.is("52 bits", x.copy(0, 0, 3, 0, 1), Due.KIND);
         Due.is("52 missing comes before bits", x.copy(2, 0, 3, 0, 99), Due.MISSING);
         Due.is("52 bits come before how many", x.copy(0, 0, 3, 0, 99), Due.KIND);

@@ -43,6 +43,10 @@ public final class TermsTest {
         Due.is("39 both", x.unlike(), 6);
         x.copyTerm(2, 5, 6);
         Due.is("39 one", x.unlike(), 2);
+        SitDown y = new SitDown();
+        y.hold(6, 506);
+        y.copyTerm(0, 5, 5);
+        Due.is("39 term 0", y.unlike(), 1);
     }
 
     private static void sign() {
@@ -80,6 +84,10 @@ public final class TermsTest {
         Due.is("40 limit", x.sign(30, 0, 1000), Due.BEYOND);
         Due.is("40 limit", x.sign(30, 0, -1), Due.BEYOND);
         Due.is("40 edges", x.sign(30, 999, 999), Due.NONE);
+        SitDown y = new SitDown();
+        y.hold(6, 605);
+        y.hold(6, 505);
+        Due.is("40 cheaper by 1", y.sign(3, 5, 99), 2);
     }
 
     private static void signOfTen() {
@@ -118,6 +126,8 @@ public final class TermsTest {
         x.list(5, 40, 15);
         Due.is("42 the least", x.want(0), 30);
         Due.is("42 the most", x.want(1), 190);
+        x.list(0, 100, 69);
+        Due.is("42 the least by list 0", x.want(0), 31);
         Due.is("42 what", x.want(2), Due.BEYOND);
         Due.is("42 what", x.want(-1), Due.BEYOND);
         for (int k = 0; k < 4; k++) {

@@ -124,6 +124,11 @@ public final class TextsTest {
         Due.is("27 a tape goes on", x.text(0, 0, 5), -36);
         Due.type(x, ">7");
         Due.is("27 a tape goes on", x.text(0, 0, 5), 0);
+        SitDown y = new SitDown();
+        y.hold(1, 0);
+        Due.text(y, 0, "may make when men=9;may");
+        Due.is("27 nothing of a fault is left", Due.text(y, 0, "bar make"), 0);
+        Due.is("27 nothing of a fault is left", y.barred(3, 0), 1);
     }
 
     private static void wipe() {

@@ -87,6 +87,9 @@ public final class HoldsTest {
         Due.is("2 the 25th", x.hold(0, 0), Due.FULL);
         Due.is("2 the 25th", x.hold(3, 99), Due.FULL);
         Due.is("2 beyond comes before full", x.hold(0, -1), Due.BEYOND);
+        Due.is("2 a gate from what cannot be there", x.hold(3, 2499), Due.BEYOND);
+        Due.is("2 a gate to what cannot be there", x.hold(3, 24), Due.BEYOND);
+        Due.is("2 a pipe to what cannot be there", x.hold(4, 2500), Due.BEYOND);
         Due.is("2 count", x.count(0), 24);
     }
 

@@ -59,6 +59,9 @@ public final class ModelTest {
         if (!isWild) {
             begin();
         }
+        if (run % 5 == 2) {
+            fillUp();
+        }
         while (told.size() < CALLS && isRight) {
             String name = names.get(random.nextInt(names.size()));
             if (isWild || random.nextInt(25) == 0) {
@@ -85,6 +88,29 @@ public final class ModelTest {
         }
         call("work", 100 * random.nextInt(4));
         call("work", 1000 * random.nextInt(5) + 10000);
+    }
+
+    /** As many as there may be of all that is counted, or nearly. */
+    private void fillUp() throws Exception {
+        int[] kinds = {1, 2, 3, 5, 6, 6};
+        for (int i = 0; i < 60 && model.count(0) < 24; i++) {
+            call("hold", kinds[below(kinds.length)], i % 2 == 0 ? numbers() : 100 + below(10));
+        }
+        while (isRight && model.count(0) < 24) {
+            call("hold", 6, below(10000));
+        }
+        while (isRight && model.count(2) < 16 - below(2)) {
+            call("man", ofKind(1), below(10000));
+        }
+        while (isRight && model.count(4) < 6) {
+            call("work", below(10) * (int) Math.pow(10, below(6)));
+        }
+        for (int i = 0; i < 8; i++) {
+            call("rumour", ofKind(3), 1 + below(9));
+        }
+        for (int i = 0; i < 30 && model.count(6) < 8 && told.size() < 300; i++) {
+            type();
+        }
     }
 
     private Object[] wildArguments(String name) {

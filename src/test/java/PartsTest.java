@@ -185,6 +185,18 @@ public final class PartsTest {
         z.run(1, true);
         z.work(200000);
         Due.is("25 the least as bits", z.least(1), 1);
+        SitDown u = new SitDown();
+        u.hold(1, 1);
+        u.hold(1, 1);
+        u.hold(1, 2);
+        for (int s = 0; s < 3; s++) {
+            u.run(s, true);
+        }
+        u.work(300000);
+        Due.is("25 the fewest, though not the least as bits", u.least(1), 4);
+        u.run(0, false);
+        u.run(1, false);
+        Due.is("25 it stands as it is, without shop 0", u.least(1), 0);
     }
 
     /** Without PART 1 WORKS 0 stands, and leaves PART 0 to WORKS 1. */

@@ -129,6 +129,30 @@ public final class TextsTest {
         Due.text(y, 0, "may make when men=9;may");
         Due.is("27 nothing of a fault is left", Due.text(y, 0, "bar make"), 0);
         Due.is("27 nothing of a fault is left", y.barred(3, 0), 1);
+        Due.type(y, "bar make when hour=12");
+        Due.is("27 bytes that were wiped", Due.text(y, 0, "bar make when hour=1"), 1);
+        Due.is("27 bytes that were wiped", y.barred(3, 0), 1);
+        Due.is("27 bytes that were wiped", Due.text(y, 0, "bar make when hour="), -20);
+        hundredBytes();
+    }
+
+    /** THE TAPE is full, and the reading comes to its very end. */
+    private static void hundredBytes() {
+        String two = "may make when men=1&men=1&men=1;may make when men=1&men=1&men=1;";
+        String[] ends = {
+            "bar make when men=00&men=000&day=000", "bar make when men=00&men=000&warm=12",
+            "bar make when men=00&men=00&day=00;;", "bar make when men=00&men=000&day=00;",
+            "bar make when men=00&men=000&day=00&", "bar make when men=00&hour=000&hour<1",
+        };
+        int[] due = {0, 0, -100, -101, -100, 0};
+        for (int i = 0; i < ends.length; i++) {
+            SitDown x = new SitDown();
+            x.hold(1, 0);
+            Due.type(x, two + ends[i]);
+            Due.is("27 100 bytes", x.count(12), 100);
+            Due.is("27 100 bytes that end so: " + ends[i], x.text(0, 0, 959), due[i]);
+            Due.is("27 100 bytes that end so: " + ends[i], x.barred(3, 0), due[i] == 0 ? 1 : 0);
+        }
     }
 
     private static void wipe() {

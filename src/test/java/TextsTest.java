@@ -1,9 +1,17 @@
+import java.util.regex.Matcher;
+import java.util.regex.Pattern;
+
 /** Promises 26 to 32. */
 public final class TextsTest {
+    private static final String TEST = "(day|hour|men|warm)[=<>][0-9]{1,3}";
+    private static final String CLAUSE = "(may|bar) (leave|pass|take|make)( when " + TEST + "(&" + TEST + "){0,2})?";
+    private static final Pattern TEXT = Pattern.compile(CLAUSE + "(;" + CLAUSE + "){0,4}");
+
     public static void main(String[] args) {
         feed();
         text();
         faults();
+        faultsByPattern();
         wipe();
         shares();
         between();
@@ -153,6 +161,42 @@ public final class TextsTest {
             Due.is("27 100 bytes that end so: " + ends[i], x.text(0, 0, 959), due[i]);
             Due.is("27 100 bytes that end so: " + ends[i], x.barred(3, 0), due[i] == 0 ? 1 : 0);
         }
+    }
+
+    /** Each place of some TEXTS with each byte there is, and each end: the FAULT is that of a pattern of the grammar. */
+    private static void faultsByPattern() {
+        String[] whole = {
+            "bar leave", "may pass when day=0&men>12", "bar take when hour<123&warm=4&men>05;may make",
+            "may make;may make;may make;may make;may make",
+        };
+        for (String text : whole) {
+            for (int i = 0; i < text.length(); i++) {
+                byPattern(text.substring(0, i));
+                byPattern(text.substring(0, i) + text.substring(i + 1));
+                for (char sign = 0; sign < 256; sign++) {
+                    byPattern(text.substring(0, i) + sign + text.substring(i + 1));
+                }
+            }
+            for (char sign = 0; sign < 256; sign++) {
+                byPattern(text + sign);
+            }
+        }
+    }
+
+    private static void byPattern(String text) {
+        SitDown x = new SitDown();
+        Due.is("27 '" + text + "' by the pattern", Due.text(x, 0, text), TEXT.matcher(text).matches() ? 0 : -1 - faultOf(text));
+    }
+
+    /** A text can go on to a TEXT if the pattern asks for more behind its end. */
+    private static int faultOf(String text) {
+        for (int end = 1; end <= text.length(); end++) {
+            Matcher matcher = TEXT.matcher(text.substring(0, end));
+            if (!matcher.matches() && !matcher.hitEnd()) {
+                return end - 1;
+            }
+        }
+        return text.length();
     }
 
     private static void wipe() {
